@@ -179,5 +179,10 @@ public final class DepotTest {
         Check.due("depot", x.count(3), 100);
         x.bring(0, 0);
         Check.due("not possible before nothing to fill", x.fill(0), -4);
+        x = new StormHire();
+        x.addSet(10, 40, 1, 0);
+        x.buy(1);
+        Check.due("a single litre", x.fill(0), 1);
+        Check.due("hours left with a burn of 1", x.set(0, 9), 1);
     }
 }

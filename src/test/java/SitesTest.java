@@ -303,6 +303,10 @@ public final class SitesTest {
         Check.due("the one with fewer hours is full", x.set(1, 4), 100);
         Check.due("the other gets what is left", x.set(0, 4), 67);
         Check.due("fuelRun() from an empty depot", x.fuelRun(), -5);
+        x.buy(1);
+        Check.due("fuelRun() of a single litre, beside a full tank", x.fuelRun(), 1);
+        Check.due("recorded once", x.undo(), 4);
+        Check.due("depot", x.count(3), 1);
     }
 
     private static void fuelRunIsLimited() {

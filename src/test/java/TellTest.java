@@ -12,6 +12,8 @@ public final class TellTest {
         forecastErrors();
         forecastDarkest();
         count();
+        fullHouse();
+        undoneBesideOthers();
         Check.end("TellTest");
     }
 
@@ -202,6 +204,9 @@ public final class TellTest {
         Check.due("it comes so: dark", x.count(12), 10);
         Check.due("it comes so: burnt", x.count(5), 170);
         Check.due("the history is free of it", x.undo(), 4);
+        x.pass(3);
+        Check.due("what was burnt before is not counted", x.forecast(1, 2), 30);
+        x.undo();
         x.keep();
         x.forecast(24, 0);
         x.restore();
@@ -255,5 +260,52 @@ public final class TellTest {
         Check.due("count(17)", x.count(17), -2);
         Check.due("count(MAX)", x.count(Integer.MAX_VALUE), -2);
         Check.due("count(MIN)", x.count(Integer.MIN_VALUE), -2);
+    }
+
+    /** Ten sets and twelve sites, so that each loop runs to the very end of its rows. */
+    private static void fullHouse() {
+        StormHire x = new StormHire();
+        for (int i = 0; i < 10; i++) {
+            Check.fullSet(x, 10 + i, 20 + i, 1, 0);
+        }
+        for (int i = 0; i < 12; i++) {
+            x.addSite(1 + i % 9, 10 + i, 0, 20);
+        }
+        Check.due("giveOut()", x.giveOut(), 10);
+        Check.due("the yard is empty", x.count(8), 0);
+        Check.due("litres in all tanks", x.count(4), 245);
+        Check.due("the last in need", x.needy(11), 0);
+        Check.due("open", x.count(10), 12);
+        Check.due("thirsty(9)", x.thirsty(9), x.set(9, 5));
+        Check.due("thirsty(10)", x.thirsty(10), -5);
+        Check.due("swap()", x.swap(), -5);
+        Check.due("pass(1)", x.pass(1), 10);
+        Check.due("the hours left play no part in need", x.needy(0), 8);
+        Check.due("forecast(1, 2)", x.forecast(1, 2), 10);
+        Check.due("fuelRun()", x.fuelRun(), 10);
+        Check.due("pass(19)", x.pass(19), 190);
+        Check.due("all in the yard", x.count(8), 10);
+        Check.due("lit", x.count(11), 200);
+        Check.due("dark", x.count(12), 40);
+        Check.due("bills", x.count(13), 200 * 145);
+    }
+
+    /** What was added in place of something else that is undone or restored. */
+    private static void undoneBesideOthers() {
+        StormHire x = new StormHire();
+        x.addSet(11, 22, 3, 4);
+        x.addSite(5, 6, 7, 8);
+        x.keep();
+        x.undo();
+        x.undo();
+        x.addSet(99, 88, 7, -6);
+        x.addSite(1, 2, 3, 4);
+        x.restore();
+        int[] set = {11, 22, 3, 4};
+        int[] site = {5, 6, 7, 8};
+        for (int what = 0; what < 4; what++) {
+            Check.due("restored: set(0, " + what + ")", x.set(0, what), set[what]);
+            Check.due("restored: site(0, " + what + ")", x.site(0, what), site[what]);
+        }
     }
 }
