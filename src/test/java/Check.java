@@ -27,18 +27,18 @@ final class Check {
         }
     }
 
-    /** Every number that an object tells without being changed, in one row. */
+    /** Every number that an object tells without being changed, in one row: up to the first unknown set and site. */
     static int[] everything(StormHire x) {
         java.util.ArrayList<Integer> told = new java.util.ArrayList<>();
         for (int what = 0; what <= 16; what++) {
             told.add(x.count(what));
         }
-        for (int set = 0; set < 10; set++) {
+        for (int set = 0; set <= told.get(7); set++) {
             for (int what = 0; what <= 9; what++) {
                 told.add(x.set(set, what));
             }
         }
-        for (int site = 0; site < 12; site++) {
+        for (int site = 0; site <= told.get(9); site++) {
             for (int what = 0; what <= 9; what++) {
                 told.add(x.site(site, what));
             }

@@ -281,6 +281,7 @@ public final class DepotBoundsTest {
         x.fill(0);
         x.buy(11);
         Check.due("the last ten litres", x.fill(0), 10);
+        Check.due("beside those that were in it", x.set(0, 4), 40);
         Check.due("the depot keeps one", x.count(3), 1);
         StormHire big = depotAndTank(600, 500);
         Check.due("no truck drives: all 500", big.fill(0), 500);

@@ -12,6 +12,8 @@ public final class HistoryBoundsTest {
         undoIsNoneIfTheHistoryIsEmpty();
         historyGoesRound();
         undoRestoresEachPartOfTheState();
+        anotherInTheSamePlaceIsUndone();
+        placesAreUsedAnew();
         undoLeavesTextAndSnapshot();
         onlyActsAreRecorded();
         refusedCallsAreNotRecorded();
@@ -142,6 +144,57 @@ public final class HistoryBoundsTest {
     private static Supplier<StormHire> readyFor(int act) {
         boolean small = act == 6 || act == 8;
         return small ? Twin.after(Scenes::busy, x -> x.addSite(1, 1, 1, 2)) : Scenes::busy;
+    }
+
+    /** A set and a site that stood at the same numbers as others do now come back as they were. */
+    private static void anotherInTheSamePlaceIsUndone() {
+        StormHire x = new StormHire();
+        x.keep();
+        x.addSet(11, 22, 3, 4);
+        x.addSite(5, 6, 7, 8);
+        x.restore();
+        x.addSet(99, 88, 7, -6);
+        x.addSite(1, 2, 3, 4);
+        x.undo();
+        x.undo();
+        x.undo();
+        int[] set = {11, 22, 3, 4};
+        int[] site = {5, 6, 7, 8};
+        for (int what = 0; what < 4; what++) {
+            Check.due("set(0, " + what + ")", x.set(0, what), set[what]);
+            Check.due("site(0, " + what + ")", x.site(0, what), site[what]);
+        }
+    }
+
+    /** What is added where others were before is as new, whether they were undone or left by restore(). */
+    private static void placesAreUsedAnew() {
+        StormHire x = new StormHire();
+        x.keep();
+        Scenes.setWithFuel(x, 50, 10, 10, 100);
+        x.addSite(5, 50, 0, 99);
+        x.bring(0, 0);
+        x.pass(3);
+        Check.due("it runs", x.set(0, 6), 1);
+        Check.due("it is warm", x.set(0, 7), 1);
+        x.restore();
+        Check.due("no set", x.set(0, 0), -1);
+        Check.due("addSet", x.addSet(20, 30, 4, -1), 0);
+        Check.due("addSite", x.addSite(3, 20, 0, 9), 0);
+        newInPlace(x);
+        x.undo();
+        Check.typeAll(x, "3*20@0-9");
+        Check.due("readSites()", x.readSites(), 1);
+        newInPlace(x);
+        Check.due("it is in the yard", x.bring(0, 0), 0);
+    }
+
+    private static void newInPlace(StormHire x) {
+        int[] set = {20, 30, 4, -1, 0, -5, 0, 0, 0, 0};
+        int[] site = {3, 20, 0, 9, -5, 0, 0, 0, -5, 1};
+        for (int what = 0; what < 10; what++) {
+            Check.due("new: set(0, " + what + ")", x.set(0, what), set[what]);
+            Check.due("new: site(0, " + what + ")", x.site(0, what), site[what]);
+        }
     }
 
     private static void undoLeavesTextAndSnapshot() {

@@ -1,4 +1,5 @@
 import java.util.Arrays;
+import java.util.function.Supplier;
 
 /** Promises 7 to 13 at their bounds: above each method stands what it holds, mostly in the document's own words. */
 public final class SitesBoundsTest {
@@ -27,6 +28,7 @@ public final class SitesBoundsTest {
         swapTellsBothSites();
         fuelRunIsNoneIfNothingIsFilledIn();
         fuelRunTakesThreeHundredAtMost();
+        fuelRunIsOneAct();
         passTakesOneToTwentyFour();
         passGoesToHour999();
         passIsBadBeforeNotPossible();
@@ -322,7 +324,8 @@ public final class SitesBoundsTest {
 
     /** swap: "100 * the site that had no set + the site that had its set before", up to the greatest numbers. */
     private static void swapTellsBothSites() {
-        int[][] rows = {{0, 1, 1}, {1, 0, 100}, {0, 11, 11}, {11, 0, 1100}, {10, 11, 1011}, {11, 10, 1110}, {5, 10, 510}};
+        int[][] rows = {{0, 1, 1}, {1, 0, 100}, {0, 11, 11}, {11, 0, 1100}, {10, 11, 1011}, {11, 10, 1110},
+            {5, 10, 510}};
         for (int[] row : rows) {
             Twin.recorded(call("swap", row), () -> swapBetween(row[0], row[1]), StormHire::swap, row[2]);
             StormHire x = swapBetween(row[0], row[1]);
@@ -392,6 +395,21 @@ public final class SitesBoundsTest {
         }
     }
 
+    /** fuelRun: "Does a fuel run. This is an act": one, however many tanks are filled. */
+    private static void fuelRunIsOneAct() {
+        Supplier<StormHire> ten = Twin.after(Scenes::crowded, x -> x.pass(3));
+        Twin.recorded("fuelRun() to ten", ten, StormHire::fuelRun, 60);
+        StormHire x = ten.get();
+        x.undo();
+        x.undo();
+        x.pass(1);
+        Check.due("states before it", x.count(15), 4);
+        Check.due("fuelRun() to nine", x.fuelRun(), 18);
+        Check.due("states after it", x.count(15), 5);
+        x.undo();
+        Check.due("undone at one go", x.count(4), 227);
+    }
+
     /** pass: "hours: 1 to 24". */
     private static void passTakesOneToTwentyFour() {
         for (int hours : new int[] {MIN, -24, -1, 0, 25, 26, 999, 1000, MAX}) {
@@ -422,10 +440,9 @@ public final class SitesBoundsTest {
         Twin.unchanged("pass(24) at 976", () -> Scenes.atHour(976), x -> x.pass(24), -4);
         Twin.unchanged("pass(1) at 999", () -> Scenes.atHour(999), x -> x.pass(1), -4);
         Twin.unchanged("pass(24) at 999", () -> Scenes.atHour(999), x -> x.pass(24), -4);
-        Twin.unchanged("a part of the hours does not pass", Twin.after(() -> Scenes.atHour(990), SitesBoundsTest::light),
-            x -> x.pass(10), -4);
-        Twin.recorded("all of them do", Twin.after(() -> Scenes.atHour(990), SitesBoundsTest::light),
-            x -> x.pass(9), 9);
+        Supplier<StormHire> late = Twin.after(() -> Scenes.atHour(990), SitesBoundsTest::light);
+        Twin.unchanged("a part of the hours does not pass", late, x -> x.pass(10), -4);
+        Twin.recorded("all of them do", late, x -> x.pass(9), 9);
     }
 
     private static int light(StormHire x) {

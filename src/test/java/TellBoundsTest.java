@@ -315,7 +315,8 @@ public final class TellBoundsTest {
         for (int hours : new int[] {MIN, -24, -1, 0, 25, 26, 999, MAX}) {
             for (int what = 0; what <= 3; what++) {
                 int asked = what;
-                Twin.unchanged("forecast(" + hours + ", " + what + ")", Scenes::busy, x -> x.forecast(hours, asked), -2);
+                Twin.unchanged("forecast(" + hours + ", " + what + ")", Scenes::busy,
+                    x -> x.forecast(hours, asked), -2);
             }
         }
         for (int what : new int[] {MIN, -5, -1, 4, 5, MAX}) {
@@ -361,7 +362,8 @@ public final class TellBoundsTest {
         }
     }
 
-    /** "3 for the site with the most dark hours among these (the lowest one of several; NONE if none would be dark)". */
+    /** "3 for the site with the most dark hours among these (the lowest one of several; NONE if none would be
+     * dark)". */
     private static void forecastTellsTheLowestDarkestSite() {
         int[][] rows = {{0, 5, 0, 5, 0, 5, 0}, {0, 4, 0, 5, 0, 5, 1}, {0, 4, 0, 4, 0, 5, 2}, {0, 5, 0, 4, 1, 6, 0},
             {6, 9, 6, 9, 6, 9, -5}, {6, 9, 6, 9, 4, 9, 2}, {4, 5, 0, 1, 2, 3, 0}, {1, 3, 3, 6, 4, 6, 0}};
@@ -467,7 +469,7 @@ public final class TellBoundsTest {
     /** Fuel goes from the depot to tanks and is burnt: the sum of the three is what was bought. */
     private static void countFollowsWhatItCounts() {
         StormHire x = Scenes.busy();
-        for (int round = 0; round < 20; round++) {
+        for (int round = 0; round < 12; round++) {
             x.pass(2);
             x.fuelRun();
             x.giveOut();

@@ -359,7 +359,8 @@ public final class TermsBoundsTest {
 
     /** "If it has less fuel than its burn, the start fails for the cause 2." */
     private static void startNeedsTheBurn() {
-        int[][] rows = {{0, 10, 2}, {9, 10, 2}, {10, 10, 0}, {11, 10, 0}, {0, 1, 2}, {1, 1, 0}, {49, 50, 2}, {50, 50, 0}};
+        int[][] rows = {{0, 10, 2}, {9, 10, 2}, {10, 10, 0}, {11, 10, 0}, {0, 1, 2}, {1, 1, 0}, {49, 50, 2},
+            {50, 50, 0}};
         for (int[] row : rows) {
             String call = row[0] + " litres, a burn of " + row[1];
             StormHire x = new StormHire();
@@ -392,8 +393,9 @@ public final class TermsBoundsTest {
 
     /** "if the temperature is below its limit, and the degrees below are more than 5 * its warmth": warmth 0. */
     private static void startNeedsTheLimit() {
-        int[][] rows = {{10, 11, 0}, {10, 10, 0}, {10, 9, 3}, {0, 1, 0}, {0, 0, 0}, {0, -1, 3}, {-5, -4, 0}, {-5, -5, 0},
-            {-5, -6, 3}, {-29, -30, 3}, {-30, -30, 0}, {-30, 20, 0}, {10, 20, 0}, {10, -30, 3}, {6, 5, 3}, {5, 5, 0}};
+        int[][] rows = {{10, 11, 0}, {10, 10, 0}, {10, 9, 3}, {0, 1, 0}, {0, 0, 0}, {0, -1, 3}, {-5, -4, 0},
+            {-5, -5, 0}, {-5, -6, 3}, {-29, -30, 3}, {-30, -30, 0}, {-30, 20, 0}, {10, 20, 0}, {10, -30, 3},
+            {6, 5, 3}, {5, 5, 0}};
         for (int[] row : rows) {
             String call = "limit " + row[0] + " at " + row[1] + " degrees";
             StormHire x = cold(row[0], row[1]);

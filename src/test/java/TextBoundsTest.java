@@ -79,7 +79,8 @@ public final class TextBoundsTest {
 
     /** type: "character: any character". */
     private static void typeTakesAnyCharacter() {
-        int[] signs = {0, 1, 9, 10, 13, 32, 47, 48, 57, 58, 127, 128, 233, 255, 256, 304, 0x0661, 0xd800, 0xdfff, 65535};
+        int[] signs = {0, 1, 9, 10, 13, 32, 47, 48, 57, 58, 127, 128, 233, 255, 256, 304, 0x0661, 0xd800, 0xdfff,
+            65535};
         StormHire x = new StormHire();
         for (int i = 0; i < signs.length; i++) {
             Check.due("type(" + signs[i] + ")", x.type((char) signs[i]), i + 1);
@@ -335,7 +336,8 @@ public final class TextBoundsTest {
         for (int sites = 1; sites <= 7; sites++) {
             StringBuilder text = new StringBuilder();
             for (int i = 0; i < sites; i++) {
-                text.append(i == 0 ? "" : ";").append(i + 1).append('*').append(9 - i).append("@").append(i).append("-9");
+                text.append(i == 0 ? "" : ";").append(i + 1).append('*').append(9 - i).append('@').append(i)
+                    .append("-9");
             }
             StormHire x = with(text.toString());
             Check.due("readSites() of " + sites, x.readSites(), sites);

@@ -62,23 +62,23 @@ public final class TextTest {
             {"1*1@0-1234", 9}, {"1*1@0-1x", 7}, {"1*1@0-123-", 9}, {"1*1@0-1 ", 7},
             {"1*1@0-1;", 8}, {"1*1@0-1;;", 8}, {"1*1@0-1;0", 8}, {"1*1@0-1;1", 9}, {"1*1@0-1;1*1@0-", 14},
             {"1*1@0-1,1*1@0-1", 7}, {"9*99@999-999:", 12}, {"9*99@999-999;", 13}, {"9*99@999-9999", 12}};
-        StormHire x = new StormHire();
         for (Object[] row : rows) {
             String text = (String) row[0];
-            Check.retype(x, text);
+            StormHire x = new StormHire();
+            Check.typeAll(x, text);
             Check.due("readSites() of " + text, x.readSites(), -100 - (Integer) row[1]);
+            Check.due("nothing recorded", x.count(15), 0);
+            Check.due("no sites", x.count(9), 0);
         }
-        Check.due("nothing recorded", x.count(15), 0);
-        Check.due("no sites", x.count(9), 0);
     }
 
     private static void foreignCharacters() {
         String good = "1*10@2-34";
         char[] foreign = {(char) 0, '/', ':', (char) 233, (char) 255, (char) ('1' + 256), (char) 0x0661, (char) 65535};
-        StormHire x = new StormHire();
         for (int at = 0; at < good.length(); at++) {
             for (char sign : foreign) {
-                Check.retype(x, good.substring(0, at) + sign + good.substring(at + 1));
+                StormHire x = new StormHire();
+                Check.typeAll(x, good.substring(0, at) + sign + good.substring(at + 1));
                 Check.due("readSites() with " + (int) sign + " at " + at, x.readSites(), -100 - at);
             }
         }
