@@ -20,7 +20,9 @@ public final class FaceTest {
         methods();
         fields();
         nested();
+        sizes();
         source();
+        objectsAreMadeAtTheStart();
         neverThrows();
         Check.end("FaceTest");
     }
@@ -82,11 +84,52 @@ public final class FaceTest {
         }
     }
 
+    /** LANGUAGE.md, 11: how many classes, fields and parameters there may be. */
+    private static void sizes() {
+        Class<?>[] inside = StormHire.class.getDeclaredClasses();
+        Check.holds("at most twelve classes", inside.length < 12);
+        sizes(StormHire.class);
+        for (Class<?> c : inside) {
+            sizes(c);
+        }
+    }
+
+    private static void sizes(Class<?> c) {
+        int fields = 0;
+        for (Field f : c.getDeclaredFields()) {
+            fields += Modifier.isStatic(f.getModifiers()) ? 0 : 1;
+        }
+        Check.holds(c + " has at most twenty fields", fields <= 20);
+        for (Method m : c.getDeclaredMethods()) {
+            Check.holds(m + " has at most seven parameters", m.getParameterCount() <= 7);
+        }
+    }
+
+    /** All calls of a run share one room, so that an object makes its rows when it is made, and none later. */
+    private static void objectsAreMadeAtTheStart() throws IOException {
+        Set<String> classes = new TreeSet<>(Set.of("StormHire"));
+        for (Class<?> c : StormHire.class.getDeclaredClasses()) {
+            classes.add(c.getSimpleName());
+        }
+        Pattern header = Pattern.compile("(?: {4}| {8})(?:\\w+(?:\\[])? )*(\\w+)\\(.*\\) \\{");
+        String around = "";
+        for (String line : Files.readAllLines(Path.of("src/main/java/StormHire.java"))) {
+            java.util.regex.Matcher begins = header.matcher(line);
+            boolean isField = line.matches(" *private final .*");
+            around = begins.matches() && !begins.group(1).matches("if|for|while|switch") ? begins.group(1) : around;
+            if (!isField && line.matches(".*\\bnew\\b.*") && !line.strip().startsWith("/")) {
+                Check.holds("no object is made in " + around, classes.contains(around));
+            }
+        }
+        Check.holds("the methods are found up to the last: " + around, around.equals("skip"));
+    }
+
     private static void source() throws IOException {
         String source = Files.readString(Path.of("src/main/java/StormHire.java"));
         String[] forbidden = {"throw", "try", "catch", "synchronized", "assert", "import", "package", "native",
             "volatile", "transient", "System", "Object", "Exception", "equals", "hashCode", "toString", "->", "::",
-            "protected", "var", "goto"};
+            "protected", "var", "goto", "addExact", "subtractExact", "multiplyExact",
+            "negateExact", "toIntExact", "incrementExact", "decrementExact", "random"};
         for (String word : forbidden) {
             String sign = Pattern.quote(word);
             boolean isWord = Character.isLetter(word.charAt(0));
